@@ -278,7 +278,7 @@ public final class GodWeathers {
             case 3:
                 return Crew.largestRaft(c);
             case 4:
-                return Crew.mostCouples(c, 0, 0);
+                return Crew.mostCouples(c);
             case 5:
                 return Sky.rivals(c);
             case 6:
@@ -329,7 +329,7 @@ public final class GodWeathers {
         if (c == null || n < 0 || n > WEATHERS) {
             return NONE;
         }
-        return leastTerms(sky.waysToCome(c, n), sky.allWays(), under);
+        return leastTerms(sky.waysToCome(c, n), Sky.ALL_WAYS, under);
     }
 
     public int lack(int coast, int work) {
@@ -353,7 +353,7 @@ public final class GodWeathers {
         for (int child = 0; child < c.children; child++) {
             rows *= GODPARENTS;
         }
-        return leastTerms(Asking.luckyRows(c, c.need[work], 0, 0), rows, under);
+        return leastTerms(Asking.luckyRows(c, c.need[work]), rows, under);
     }
 
     public int heir(int coast, boolean much) {
@@ -1546,14 +1546,19 @@ public final class GodWeathers {
             return sets;
         }
 
-        static int luckyRows(Coast coast, int need, int child, int here) {
+        /** In how many rows in which every child asks all of these are here in the end. */
+        static int luckyRows(Coast coast, int need) {
+            return luckyRowsFrom(coast, need, 0, 0);
+        }
+
+        private static int luckyRowsFrom(Coast coast, int need, int child, int here) {
             if (child >= coast.children) {
                 return (need & ~here) == 0 ? 1 : 0;
             }
             int rows = 0;
             for (int w = 0; w < WEATHERS; w++) {
                 if (coast.isGodparent(child, w)) {
-                    rows += luckyRows(coast, need, child + 1, coast.hereOnceComes(here, w));
+                    rows += luckyRowsFrom(coast, need, child + 1, coast.hereOnceComes(here, w));
                 }
             }
             return rows;
@@ -1702,15 +1707,19 @@ public final class GodWeathers {
             return bits;
         }
 
+        static int mostCouples(Coast coast) {
+            return mostCouplesFrom(coast, 0, 0);
+        }
+
         /** How many couples there can be among the children from this one on that are not taken. */
-        static int mostCouples(Coast coast, int child, int taken) {
+        private static int mostCouplesFrom(Coast coast, int child, int taken) {
             if (child >= coast.children) {
                 return 0;
             }
-            int most = mostCouples(coast, child + 1, taken);
+            int most = mostCouplesFrom(coast, child + 1, taken);
             for (int other = child + 1; other < coast.children && !has(taken, child); other++) {
                 if (!has(taken, other) && shared(coast, child, other) == 0) {
-                    most = Math.max(most, 1 + mostCouples(coast, child + 1, taken | 1 << other));
+                    most = Math.max(most, 1 + mostCouplesFrom(coast, child + 1, taken | 1 << other));
                 }
             }
             return most;
@@ -1729,17 +1738,14 @@ public final class GodWeathers {
         int fewest(Coast ofCoast, int perBoat) {
             coast = ofCoast;
             room = perBoat;
-            for (int many = 0; many < coast.children; many++) {
-                Arrays.fill(filled, 0);
-                Arrays.fill(aboard, 0);
+            Arrays.fill(filled, 0);
+            Arrays.fill(aboard, 0);
+            for (int many = 0; many <= coast.children; many++) {
+                // Where there is no way, all boats are empty again.
                 if (board(0, 0, many)) {
                     return many;
                 }
             }
-            // With a boat for each child there is always a way.
-            Arrays.fill(filled, 0);
-            Arrays.fill(aboard, 0);
-            board(0, 0, coast.children);
             return coast.children;
         }
 
@@ -1767,6 +1773,9 @@ public final class GodWeathers {
 
     /** Weathers among themselves. */
     private static final class Sky {
+        /** Ten for each weather, of which its chance is a share. */
+        static final long ALL_WAYS = 100000000L;
+
         final int[] bestRow = new int[WEATHERS];
         private final int[] row = new int[WEATHERS];
         private final long[] ways = new long[WEATHERS + 1];
@@ -1835,7 +1844,7 @@ public final class GodWeathers {
             }
         }
 
-        /** In how many of allWays, which are alike, this many weathers or more come. */
+        /** In how many of ALL_WAYS, which are alike, this many weathers or more come. */
         long waysToCome(Coast ofCoast, int atLeast) {
             Arrays.fill(ways, 0L);
             ways[0] = 1;
@@ -1851,10 +1860,6 @@ public final class GodWeathers {
                 sum += ways[many];
             }
             return sum;
-        }
-
-        long allWays() {
-            return 100000000L;
         }
     }
 }
