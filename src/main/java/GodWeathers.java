@@ -225,10 +225,7 @@ public final class GodWeathers {
         if (what == 2) {
             return many == 0 ? NONE : l.bestQuestion();
         }
-        if (what < 10 || what - 10 >= many) {
-            return NO_SUCH;
-        }
-        return l.fitting(what - 10);
+        return what < 10 ? NO_SUCH : l.fitting(what - 10);
     }
 
     public int whose(int coast, int log) {
@@ -893,6 +890,7 @@ public final class GodWeathers {
             return best;
         }
 
+        /** The k-th three that fits, by numbers. */
         int fitting(int k) {
             int before = 0;
             for (int trio = 0; trio <= ALL_WEATHERS; trio++) {
@@ -1610,8 +1608,8 @@ public final class GodWeathers {
             }
             int bestEnd = playOn(turns - 1, taken, here, !forMost);
             for (int child = 0; child < coast.children; child++) {
-                for (int w = 0; w < WEATHERS; w++) {
-                    if (!has(taken, child) && coast.isGodparent(child, w)) {
+                for (int w = 0; w < WEATHERS && !has(taken, child); w++) {
+                    if (coast.isGodparent(child, w)) {
                         int end = playOn(turns - 1, taken | 1 << child, coast.hereOnceComes(here, w), !forMost);
                         bestEnd = forMost ? Math.max(bestEnd, end) : Math.min(bestEnd, end);
                     }

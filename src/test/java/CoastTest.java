@@ -67,6 +67,10 @@ final class CoastTest {
         KIT.due("told anew: chance", x.coast(0, 10), 3);
         KIT.due("told anew: needs", x.coast(0, 60), 0);
         KIT.due("told anew: children", x.coast(0, 0), 0);
+        KIT.due("told anew: patience", x.coast(0, 27), 3);
+        for (int w = 0; w < 8; w++) {
+            KIT.due("told anew: oppose", x.coast(0, 30 + w), 0);
+        }
     }
 
     private static void noneSuch() {

@@ -146,5 +146,11 @@ final class SkyTest {
         x = Kit.coast(Kit.times(5, "work 20;"));
         KIT.due("without needs", x.tide(0, 99, false), 0);
         KIT.due("without needs", x.tide(0, 99, true), 0);
+        KIT.due("another v, though they are worth it", Kit.coast(Kit.times(6, "work 20;")).tide(0, 100, false), -1);
+        StringBuilder all = new StringBuilder("work 1;");
+        for (int w = 0; w < 8; w++) {
+            all.append("needs 0 ").append(w).append(';');
+        }
+        KIT.due("all are needed", Kit.coast(all.toString()).tide(0, 1, true), 255);
     }
 }

@@ -6,6 +6,8 @@ final class TapeTest {
         newObject();
         feedAndEnd();
         bytesAreHighestFirst();
+        whatWasCutOffIsNotRead();
+        theTapeIsFull();
         placesOfTexts();
         faultOne();
         faultTwo();
@@ -68,6 +70,40 @@ final class TapeTest {
         KIT.due("place", x.fault(1), 0);
     }
 
+    private static void cut(String text, int length, int fault, int place) {
+        GodWeathers x = new GodWeathers();
+        Kit.type(x, text);
+        x.end(length);
+        KIT.due(text + " cut to " + length, x.text(0, -1), fault == 0 ? 0 : -1);
+        KIT.due(text + " fault", x.fault(0), fault);
+        KIT.due(text + " place", x.fault(1), place);
+    }
+
+    private static void whatWasCutOffIsNotRead() {
+        cut("work 1;works 1;", 11, 1, 11);
+        cut("work 123;", 7, 1, 7);
+        cut("work 12;#", 8, 0, -1);
+        cut("work 12; #", 9, 0, -1);
+        cut("work 12;", 7, 1, 7);
+        GodWeathers x = new GodWeathers();
+        Kit.type(x, "work 1;work 2;work 3;");
+        x.end(7);
+        Kit.type(x, "work 9;");
+        KIT.due("text", x.text(0, -1), 0);
+        KIT.due("works", x.coast(0, 1), 2);
+        KIT.due("worth", x.coast(0, 51), 9);
+    }
+
+    private static void theTapeIsFull() {
+        fault(0, Kit.times(600, "a"), 1, 0);
+        fault(0, Kit.times(600, "1"), 1, 0);
+        fault(0, Kit.times(600, " "), 0, -1);
+        fault(0, Kit.times(600, ";"), 1, 0);
+        fault(0, Kit.times(594, " ") + "work 1", 1, 600);
+        fault(0, Kit.times(593, "\n") + "work 1;", 0, -1);
+        fault(0, Kit.times(596, " ") + "work", 1, 600);
+    }
+
     private static void placesOfTexts() {
         for (int sort = 0; sort < 3; sort++) {
             GodWeathers x = new GodWeathers();
@@ -124,6 +160,13 @@ final class TapeTest {
         fault(0, "work 1;;", 1, 7);
         fault(0, " Work 1;", 1, 1);
         fault(0, "works 1;", 1, 0);
+        fault(0, "dork 1;", 1, 0);
+        fault(0, "workz 1;", 1, 0);
+        fault(0, "zwork 1;", 1, 0);
+        fault(0, "work` 1;", 1, 4);
+        fault(0, "work{ 1;", 1, 4);
+        fault(0, "work 1/;", 1, 6);
+        fault(0, "work 1:;", 1, 6);
         fault(0, "wor k 1;", 1, 0);
         fault(0, "work\t1;", 1, 4);
         fault(0, "work 1#;", 1, 6);
@@ -150,6 +193,7 @@ final class TapeTest {
         fault(0, "child 0 1 1;", 2, 10);
         fault(0, "child 8 0 1;", 2, 6);
         fault(0, "child 0 1 8;", 2, 10);
+        fault(0, "child 0 8 1;", 2, 8);
         fault(0, "child 8 8 8;", 2, 6);
         fault(0, "weather 0 10;", 0, -1);
         fault(0, "weather 0 11;", 2, 10);
@@ -172,6 +216,7 @@ final class TapeTest {
         fault(1, "come 8;", 2, 5);
         fault(1, "do 6;", 2, 3);
         fault(2, "heard 8;", 2, 6);
+        fault(2, "deaf 8;", 2, 5);
         fault(2, "deaf 0;deaf 99;", 2, 12);
     }
 
@@ -186,6 +231,12 @@ final class TapeTest {
         fault(1, Kit.times(41, "day;"), 3, 160);
         fault(2, Kit.times(8, "deaf 0;"), 0, -1);
         fault(2, Kit.times(9, "deaf 0;"), 3, 56);
+        fault(2, Kit.times(9, "heard 0;"), 3, 64);
+        String[] deeds = {"ask 0 0;", "thank 0 0;", "come 0;", "do 0;"};
+        for (String deed : deeds) {
+            fault(1, Kit.times(40, deed), 0, -1);
+            fault(1, Kit.times(41, deed), 3, 40 * deed.length());
+        }
     }
 
     private static void faultFour() {

@@ -167,6 +167,12 @@ final class YearTest {
         KIT.due("by the second deed", x.after(0, 0, 0), 1);
         x = Kit.coastAndYear("child 0 1 2;child 5 6 7;", "ask 1 5;ask 0 0;");
         KIT.due("both asked once", x.after(0, 0, 3), 0);
+        KIT.due("two were here", x.after(0, 0, 2), 2);
+        Kit.tell(x, 1, "thank 0 1;");
+        int[] quiet = {-1, -1, 0, -1, 1, 0};
+        for (int what = 0; what < 6; what++) {
+            KIT.due("a quiet year, after " + what, x.after(0, 1, what), quiet[what]);
+        }
     }
 
     private static void firstAndKept() {
