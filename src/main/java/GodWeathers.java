@@ -65,14 +65,16 @@ public final class GodWeathers {
     }
 
     public int text(int sort, int at) {
+        int length = told.length;
+        // The tape is taken by every call, also by one that reads no text.
+        told.length = 0;
         told.fault = 0;
         told.place = NONE;
         int slot = told.slotFor(sort, at);
         if (slot < 0) {
             return NO_SUCH;
         }
-        reader.read(told.tape, told.length, sort);
-        told.length = 0;
+        reader.read(told.tape, length, sort);
         told.fault = reader.fault;
         told.place = reader.faultPlace;
         if (reader.fault != 0) {

@@ -120,20 +120,39 @@ final class TapeTest {
             KIT.due("count of another", x.count((sort + 1) % 3), 0);
         }
         GodWeathers x = new GodWeathers();
+        refused(x, 3, -1);
+        refused(x, -1, -1);
+        refused(x, 2147483647, 0);
+        refused(x, 0, 0);
+        refused(x, 0, -2);
+        KIT.due("no text was read", x.count(0), 0);
         Kit.type(x, "work 1;");
-        KIT.due("no such sort", x.text(3, -1), -2);
-        KIT.due("no such sort", x.text(-1, -1), -2);
-        KIT.due("no such place", x.text(0, 0), -2);
-        KIT.due("the tape was not taken", x.end(7), 7);
         KIT.due("text", x.text(0, -1), 0);
         KIT.due("the tape was taken", x.end(1), -1);
+        refused(x, 0, 1);
+        KIT.due("a second", Kit.tell(x, 0, "work 9;"), 1);
+        refused(x, 0, -1);
+        KIT.due("the first stays", x.coast(0, 50), 1);
+        KIT.due("the second stays", x.coast(1, 50), 9);
         Kit.tell(x, 0, 0, "work 2;work 3;");
         KIT.due("the place of one is told anew", x.coast(0, 1), 2);
         KIT.due("its worth", x.coast(0, 50), 2);
         KIT.due("a fault", Kit.tell(x, 0, 0, "work 4;work"), -1);
         KIT.due("the tape was taken, too", x.end(1), -1);
         KIT.due("but the coast stays", x.coast(0, 50), 2);
-        KIT.due("and no further one came", x.count(0), 1);
+        KIT.due("and no further one came", x.count(0), 2);
+    }
+
+    /** A call of text() that answers -2: it takes the tape, and the fault of an earlier text is gone. */
+    private static void refused(GodWeathers x, int sort, int at) {
+        KIT.due("a fault ahead", Kit.tell(x, 2, -1, "deaf"), -1);
+        Kit.type(x, "work 1;");
+        KIT.due("text(" + sort + ", " + at + ")", x.text(sort, at), -2);
+        KIT.due("no fault", x.fault(0), 0);
+        KIT.due("no place", x.fault(1), -1);
+        KIT.due("the tape is empty", x.end(1), -1);
+        KIT.due("what comes is the first", x.feed(0, 0, 0, 0, 0), 20);
+        x.end(0);
     }
 
     private static void fault(int sort, String text, int fault, int place) {
