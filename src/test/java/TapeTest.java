@@ -289,7 +289,8 @@ final class TapeTest {
         x.text(3, 0);
         KIT.due("no text read: fault", x.fault(0), 0);
         KIT.due("no text read: place", x.fault(1), -1);
-        KIT.due("the tape is still there", x.text(2, -1), 0);
+        KIT.due("the tape was taken: a text of nothing", x.text(2, -1), 0);
+        KIT.due("it has no fact", x.fact(0, -1, 0), 0);
         Kit.tell(x, 0, "work");
         KIT.due("fault", x.fault(0), 1);
         Kit.tell(x, 0, "work 1;");
