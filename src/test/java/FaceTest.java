@@ -21,6 +21,7 @@ final class FaceTest {
         otherMembers();
         forbiddenWords();
         noPrivateNamesake();
+        shortMethods();
         KIT.finish();
     }
 
@@ -111,5 +112,16 @@ final class FaceTest {
                 KIT.due(m + " is a namesake", names.contains(m.getName()), false);
             }
         }
+    }
+
+    /** Some sixty lines at most; a method ends at the first brace that stands as far to the right as it begins. */
+    private static void shortMethods() throws IOException {
+        Matcher method = Pattern.compile("(?ms)^( {4}| {8})(?! )[^\\n=;]*\\w\\([^\\n;]*\\) \\{$(.*?)^\\1\\}$").matcher(code());
+        int methods = 0;
+        while (method.find()) {
+            methods++;
+            KIT.due("short: " + method.group().strip().lines().findFirst().orElse(""), method.group(2).lines().count() <= 60, true);
+        }
+        KIT.due(methods + " methods", methods > 100, true);
     }
 }

@@ -6,7 +6,7 @@ import java.util.Random;
 /** Holds the class against the plainest counting there is, over many coasts, years and logs by chance. */
 final class OracleTest {
     private static final Kit KIT = new Kit("OracleTest");
-    private static final int COASTS = 400;
+    private static final int COASTS = 600;
 
     private final Random chance;
     private final int children;
@@ -36,7 +36,7 @@ final class OracleTest {
                 lines.append("patience ").append(w).append(' ').append(patience[w]).append(';');
             }
         }
-        for (int n = chance.nextInt(9); n > 0; n--) {
+        for (int n = chance.nextInt(chance.nextInt(4) == 0 ? 26 : 9); n > 0; n--) {
             int a = chance.nextInt(8);
             int b = (a + 1 + chance.nextInt(7)) % 8;
             oppose[a][b] = true;
@@ -50,7 +50,7 @@ final class OracleTest {
         for (int k = 0; k < works; k++) {
             worth[k] = chance.nextInt(chance.nextBoolean() ? 4 : 21);
             lines.append("work ").append(worth[k]).append(';');
-            for (int n = chance.nextInt(4); n > 0; n--) {
+            for (int n = chance.nextInt(chance.nextInt(4) == 0 ? 9 : 4); n > 0; n--) {
                 int w = chance.nextInt(8);
                 need[k] |= 1 << w;
                 lines.append("needs ").append(k).append(' ').append(w).append(';');
